@@ -231,7 +231,7 @@ public final class RoundsTest {
         check.same("31 at 0", 1, () -> city(0).minutes(0));
         check.same("31 cut", 1, () -> city(9).minutes(0));
         check.same("31 ten", 2, () -> city(10).minutes(0));
-        check.same("31 back and forth", 10 + 9 + 99, () -> city(99, 10, 999).minutes(0) - 0);
+        check.same("31 back and forth", 10 + 9 + 99, () -> city(99, 10, 999).minutes(0));
         check.same("32 none", 0, () -> city().shortest(0));
         check.same("33 none", 0, () -> city().arrange(0));
         check.same("32 one", 100, () -> city(999).shortest(0));
