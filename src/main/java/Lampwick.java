@@ -67,7 +67,7 @@ public final class Lampwick {
         if (works.waiting + tons > MOST_TONS) {
             throw new IllegalStateException("more than 999 tons would wait");
         }
-        works.queue(kind, tons);
+        works.queue(new Charge(GAS_OF_TON[kind], CANDLES_OF_TON[kind], tons));
         return works.waiting;
     }
 
@@ -630,12 +630,14 @@ public final class Lampwick {
 
     /** Coal by one call of charge: the candles of the holder are mixed once an hour for each. */
     private static final class Charge {
-        final int kind;
+        final int gasOfTon;
+        final int candles;
         int tons;
         Charge behind;
 
-        Charge(int kind, int tons) {
-            this.kind = kind;
+        Charge(int gasOfTon, int candles, int tons) {
+            this.gasOfTon = gasOfTon;
+            this.candles = candles;
             this.tons = tons;
         }
     }
@@ -658,15 +660,14 @@ public final class Lampwick {
             Arrays.fill(pressures, FIRST_PRESSURE);
         }
 
-        void queue(int kind, int tons) {
-            Charge added = new Charge(kind, tons);
+        void queue(Charge added) {
             if (first == null || last == null) {
                 first = added;
             } else {
                 last.behind = added;
             }
             last = added;
-            waiting += tons;
+            waiting += added.tons;
         }
 
         void makeGas() {
@@ -674,12 +675,12 @@ public final class Lampwick {
             int came = 0;
             for (Charge charge = first; charge != null && free > 0; charge = charge.behind) {
                 int tons = Math.min(free, charge.tons);
-                int amount = tons * GAS_OF_TON[charge.kind];
+                int amount = tons * charge.gasOfTon;
                 free -= tons;
                 charge.tons -= tons;
                 waiting -= tons;
                 came += amount;
-                fill(CANDLES_OF_TON[charge.kind], amount);
+                fill(charge.candles, amount);
             }
             dropEmptyCharges();
             made += came;

@@ -40,7 +40,30 @@ public final class FaceTest {
             check.judge(inside + " is hidden and static", true, Modifier.isStatic(modifiers)
                     && !Modifier.isPublic(modifiers) && !Modifier.isProtected(modifiers));
         }
+        check.judge("other methods with a name of the face", List.of(), namesakes());
         check.end();
+    }
+
+    private static List<String> namesakes() {
+        Set<String> names = new TreeSet<>();
+        List<Method> others = new ArrayList<>();
+        for (Method method : Lampwick.class.getDeclaredMethods()) {
+            if (Modifier.isPublic(method.getModifiers())) {
+                names.add(method.getName());
+            } else {
+                others.add(method);
+            }
+        }
+        for (Class<?> inside : Lampwick.class.getDeclaredClasses()) {
+            others.addAll(List.of(inside.getDeclaredMethods()));
+        }
+        List<String> namesakes = new ArrayList<>();
+        for (Method other : others) {
+            if (names.contains(other.getName())) {
+                namesakes.add(other.toString());
+            }
+        }
+        return namesakes;
     }
 
     private static List<String> faceOf(List<String> lines) {

@@ -55,6 +55,14 @@ public final class FixturesTest {
         check.refuses("15 node first", IndexOutOfBoundsException.class, () -> x.addLamp(1, 0, 4));
         check.refuses("16 node first", IndexOutOfBoundsException.class, () -> x.addService(1, 1, 79, true));
         check.refuses("15 none was added", IndexOutOfBoundsException.class, () -> x.state(30));
+        check.same("46 of 15 lamps", 0f, () -> x.litShare());
+        check.same("47 of 15 lamps", 0.0, () -> x.meanHours());
+        check.same("13 of 15 services", 15, () -> x.flow(0));
+        x.setRetorts(1);
+        x.charge(1, 1);
+        check.same("40 with 30 fixtures", 1, () -> x.pass(1));
+        check.same("4 with 30 fixtures", 85, () -> x.holder());
+        check.same("48 with 30 fixtures", true, () -> x.isSound());
     }
 
     /** Fixture 0 a lamp, 1 a service without coins. */
@@ -208,6 +216,15 @@ public final class FixturesTest {
         check.same("46 two thirds", 2f / 3f, () -> x.litShare());
         x.pass(3);
         check.same("47 seven thirds", 7.0 / 3.0, () -> x.meanHours());
+        Lampwick y = pair();
+        y.addLighter();
+        y.assign(0, 0);
+        y.go(0, true);
+        y.setRetorts(1);
+        y.charge(1, 9);
+        y.pass(5);
+        check.same("47 the first lamp counts", 5.0, () -> y.meanHours());
+        check.same("46 the first lamp counts", 1f, () -> y.litShare());
     }
 
     private static void checksums() {

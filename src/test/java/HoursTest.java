@@ -283,13 +283,20 @@ public final class HoursTest {
         check.same("23 nothing metered", 0, () -> x.of(1, 't'));
         check.same("23 nothing owed", 0, () -> x.of(1, 'a'));
         check.same("23 but burnt", 3, () -> x.of(1, 'g'));
-        x.setDemand(0, 12);
+        x.addService(0, 99, 100, false);
         x.pass(1);
-        check.same("23 11 metered cost 2", 5, () -> x.of(0, 'a'));
+        check.same("23 hundredths of 99", 99, () -> x.of(2, 't'));
+        x.cutOff(2, true);
+        x.setDemand(0, 0);
+        x.pass(1);
+        x.setDemand(0, 12);
+        check.same("23 one hour more", 4, () -> x.of(0, 'a'));
+        x.pass(1);
+        check.same("23 11 metered cost 2", 6, () -> x.of(0, 'a'));
         x.cutOff(0, true);
         x.pass(1);
-        check.same("19 nothing more", 5, () -> x.of(0, 'a'));
-        check.same("19 no hour", 4, () -> x.of(0, 'b'));
+        check.same("19 nothing more", 6, () -> x.of(0, 'a'));
+        check.same("19 no hour", 5, () -> x.of(0, 'b'));
         check.same("48 sound", true, () -> x.isSound());
     }
 

@@ -58,17 +58,19 @@ public final class ModelTest {
         range("pass", 1, 48);
         range("owes", 0, 3);
         range("fines", 0, 3);
-        WEIGHTS.put("go", 6);
-        WEIGHTS.put("of", 6);
-        WEIGHTS.put("pass", 4);
-        WEIGHTS.put("charge", 4);
-        WEIGHTS.put("assign", 4);
-        WEIGHTS.put("addLamp", 4);
-        WEIGHTS.put("addService", 3);
-        WEIGHTS.put("pressure", 3);
-        WEIGHTS.put("flow", 3);
-        WEIGHTS.put("next", 3);
-        WEIGHTS.put("checksum", 3);
+        WEIGHTS.put("go", 12);
+        WEIGHTS.put("of", 8);
+        WEIGHTS.put("pass", 6);
+        WEIGHTS.put("charge", 6);
+        WEIGHTS.put("assign", 12);
+        WEIGHTS.put("next", 6);
+        WEIGHTS.put("checksum", 4);
+        WEIGHTS.put("coins", 4);
+        WEIGHTS.put("addLighter", 1);
+        WEIGHTS.put("setStrike", 1);
+        WEIGHTS.put("setIll", 1);
+        WEIGHTS.put("addLamp", 3);
+        WEIGHTS.put("pause", 1);
     }
 
     private void compare() throws Exception {
@@ -87,9 +89,7 @@ public final class ModelTest {
     private void compareRun(Method[] methods, int run) throws Exception {
         Lampwick city = new Lampwick();
         PlainCity plain = new PlainCity();
-        // Some runs have few nodes and lamps, so that pressures hold and rounds meet the same lamps often.
-        int most = run % 3 == 0 ? 30 : run % 3 == 1 ? 5 : 2;
-        boolean isGentle = run % 2 == 0;
+        boolean isGentle = run % 4 != 0;
         if (isGentle) {
             setUp(city, plain);
         }
@@ -98,7 +98,7 @@ public final class ModelTest {
             if (isGentle && isRough(method.getName()) && pick(8) != 0) {
                 continue;
             }
-            Object[] arguments = arguments(method, most);
+            Object[] arguments = arguments(method, plain, isGentle);
             Method same = PlainCity.class.getMethod(method.getName(), method.getParameterTypes());
             Object due = outcome(same, plain, arguments);
             String before = due instanceof Class && pick(20) == 0 ? Digest.of(city) : null;
@@ -129,26 +129,45 @@ public final class ModelTest {
     }
 
     private static boolean isRough(String method) {
-        return method.equals("setStrike") || method.equals("setIll") || method.equals("setShut")
-                || method.equals("setFrozen") || method.equals("setAge") || method.equals("lay");
+        return method.equals("setShut") || method.equals("setFrozen") || method.equals("setAge")
+                || method.equals("setStrike") || method.equals("setIll") || method.equals("unassign");
     }
 
-    private Object[] arguments(Method method, int most) {
+    private Object[] arguments(Method method, PlainCity plain, boolean isGentle) {
         Class<?>[] types = method.getParameterTypes();
         Object[] arguments = new Object[types.length];
         int[][] ranges = RANGES.get(method.getName());
         for (int i = 0; i < types.length; i++) {
             if (types[i] == boolean.class) {
-                arguments[i] = pick(2) == 0;
+                boolean isLighting = isGentle && method.getName().equals("go") && pick(2) == 0;
+                arguments[i] = isLighting || pick(2) == 0;
             } else if (types[i] == char.class) {
-                arguments[i] = pick(20) == 0 ? (char) pick(65536) : "bgwmdtacmblv".charAt(pick(12));
+                arguments[i] = pick(20) == 0 ? (char) pick(65536) : things(method).charAt(pick(things(method).length()));
             } else {
-                boolean isNumber = i == 0 && (ranges[i][1] == 29 || ranges[i][1] == 11)
-                        || i == 1 && method.getName().equals("assign");
-                arguments[i] = number(ranges[i][0], isNumber ? Math.min(ranges[i][1], most) : ranges[i][1]);
+                arguments[i] = number(ranges[i][0], greatest(ranges[i], plain, isGentle));
             }
         }
         return arguments;
+    }
+
+    private static String things(Method method) {
+        return method.getName().equals("of") ? "bgwmdtac" : "mblv";
+    }
+
+    /** Numbers of nodes, fixtures and lighters are mostly of those that there are; gentle runs pass fewer hours at once. */
+    private static int greatest(int[] range, PlainCity plain, boolean isGentle) {
+        switch (range[1]) {
+            case 11:
+                return Math.max(range[0], plain.nodes() - 1);
+            case 29:
+                return Math.max(0, plain.fixtureCount() - 1);
+            case 5:
+                return Math.max(0, plain.lighters() - 1);
+            case 48:
+                return isGentle ? 6 : 48;
+            default:
+                return range[1];
+        }
     }
 
     private int number(int least, int greatest) {

@@ -64,6 +64,18 @@ public final class PlainCity {
         mains.add(null);
     }
 
+    int nodes() {
+        return mains.size();
+    }
+
+    int fixtureCount() {
+        return fixtures.size();
+    }
+
+    int lighters() {
+        return rounds.size();
+    }
+
     private static void range(int x, int from, int to) {
         if (x < from || x > to) {
             throw new IllegalArgumentException();

@@ -17,6 +17,7 @@ public final class RoundsTest {
         goingByTheHour();
         minutes();
         arranging();
+        arrangingAnew();
         arrangingEquals();
         allOrders();
         walking();
@@ -251,6 +252,24 @@ public final class RoundsTest {
             check.same("33 order", lamp, () -> x.next());
         }
         check.same("26 last", 0, () -> x.unassign(0));
+    }
+
+    /** What was reckoned for one round says nothing of another one, be it longer or changed since. */
+    private static void arrangingAnew() {
+        Lampwick x = city(900, 500, 100);
+        x.addLighter();
+        x.addLamp(0, 60, 0);
+        x.assign(1, 0);
+        x.assign(1, 3);
+        check.same("32 of three", 11 + 41 + 41, () -> x.shortest(0));
+        check.same("32 of two", 7 + 85, () -> x.shortest(1));
+        check.same("33 of two", 91 + 85 - 92, () -> x.arrange(1));
+        check.same("33 of three", 91 + 41 + 41 - 93, () -> x.arrange(0));
+        x.unassign(0);
+        check.same("32 of the two left", 11 + 41, () -> x.shortest(0));
+        Lampwick y = city(900, 500, 100);
+        check.same("33 first of all", 91 + 41 + 41 - 93, () -> y.arrange(0));
+        check.same("31 then", 93, () -> y.minutes(0));
     }
 
     /** Of orders that are equally short it is that with the lowest numbers, even if nothing is won. */

@@ -206,6 +206,17 @@ public final class WorksTest {
         }
         y.pass(6);
         check.same("6 grows beyond 100", 121, () -> y.lime());
+        Lampwick z = new Lampwick();
+        z.setRetorts(11);
+        for (int i = 0; i < 11; i++) {
+            z.charge(0, 11);
+        }
+        z.pass(11);
+        check.same("6 nine for 990", 99, () -> z.lime());
+        check.same("5 not foul at 99", 12, () -> z.candles());
+        z.charge(1, 1);
+        z.pass(1);
+        check.same("5 foul at 100", 7, () -> z.candles());
         Lampwick none = new Lampwick();
         check.same("5 no candles", 0, () -> none.candles());
     }
