@@ -270,6 +270,13 @@ public final class RoundsTest {
         Lampwick y = city(900, 500, 100);
         check.same("33 first of all", 91 + 41 + 41 - 93, () -> y.arrange(0));
         check.same("31 then", 93, () -> y.minutes(0));
+        // The lowest of the nearest lamps, 0, is not the first of the shortest order.
+        Lampwick z = city(9, 0, 18);
+        check.same("33 the nearest is not enough", 1, () -> z.arrange(0));
+        z.walk(0);
+        check.same("33 then 1", 1, () -> z.next());
+        check.same("33 then 0", 0, () -> z.next());
+        check.same("33 then 2", 2, () -> z.next());
     }
 
     /** Of orders that are equally short it is that with the lowest numbers, even if nothing is won. */
