@@ -35,8 +35,8 @@ public final class Lampwick {
     private static final int GAS_OF_LAMP = 5;
     private static final int PAY_OF_LAMP_HOUR = 2;
     private static final int BROKEN = 60;
-    private static final float BURNING_PRESSURE = 5f;
-    private static final float WEARING_PRESSURE = 40f;
+    private static final int BURNING_PRESSURE = 5;
+    private static final int WEARING_PRESSURE = 40;
 
     private static final int MOST_LIGHTERS = 6;
     private static final int MOST_LAMPS = 6;
@@ -742,7 +742,7 @@ public final class Lampwick {
         }
 
         boolean canBurn() {
-            return hasGas && pressure >= BURNING_PRESSURE;
+            return hasGas && pressure >= (float) BURNING_PRESSURE;
         }
 
         void reckonOwnFlow() {
@@ -879,7 +879,7 @@ public final class Lampwick {
 
         void burn() {
             countBurning(GAS_OF_LAMP);
-            worn = Math.min(BROKEN, worn + (node.pressure > WEARING_PRESSURE ? 5 : 1));
+            worn = Math.min(BROKEN, worn + (node.pressure > (float) WEARING_PRESSURE ? 5 : 1));
         }
     }
 
