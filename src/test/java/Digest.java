@@ -1,51 +1,59 @@
-/** Writes down all that a city tells of itself by calls that change nothing. */
+/** Writes down all that a city tells of itself by calls that change nothing; each part is some 300 calls at most. */
 final class Digest {
+    private static final int DAYS = 200;
+
     private Digest() {
     }
 
     static String of(Lampwick city) {
-        StringBuilder text = new StringBuilder();
-        add(text, () -> city.holder() + " " + city.candles() + " " + city.lime() + " " + city.wages());
-        add(text, () -> city.checksum() + " " + city.isSound());
+        return works(city) + fixtures(city) + sky(city);
+    }
+
+    static String works(Lampwick city) {
+        Answers answers = new Answers();
+        answers.add(() -> city.holder() + " " + city.candles() + " " + city.lime() + " " + city.wages());
+        answers.add(() -> city.checksum() + " " + city.isSound());
         for (char which : "mblv".toCharArray()) {
-            add(text, () -> city.account(which));
+            answers.add(() -> city.account(which));
         }
         for (int i = 0; i < 4; i++) {
             int parish = i;
-            add(text, () -> city.owes(parish) + " " + city.fines(parish));
+            answers.add(() -> city.owes(parish) + " " + city.fines(parish));
         }
         for (int i = 0; i < 12; i++) {
             int node = i;
-            add(text, () -> city.flow(node) + " " + city.pressure(node));
-        }
-        for (int i = 0; i < 30; i++) {
-            addFixture(text, city, i);
+            answers.add(() -> city.flow(node) + " " + city.pressure(node));
         }
         for (int i = 0; i < 6; i++) {
             int lighter = i;
-            add(text, () -> city.minutes(lighter) + " " + city.shortest(lighter));
+            answers.add(() -> city.minutes(lighter) + " " + city.shortest(lighter));
         }
-        for (int i = 0; i < 200; i++) {
+        answers.add(() -> city.litShare() + " " + city.meanHours());
+        return answers.text();
+    }
+
+    static String fixtures(Lampwick city) {
+        Answers answers = new Answers();
+        for (int i = 0; i < 30; i++) {
+            int fixture = i;
+            answers.add(() -> city.state(fixture));
+            for (char what : "bgwmdtac".toCharArray()) {
+                answers.add(() -> city.of(fixture, what));
+            }
+        }
+        return answers.text();
+    }
+
+    static String sky(Lampwick city) {
+        Answers answers = new Answers();
+        for (int i = 0; i < DAYS; i++) {
             int day = i;
-            add(text, () -> "" + city.moon(day) + city.isDue(24 * day) + city.isDue(24 * day + 12));
+            answers.add(() -> city.moon(day));
         }
-        add(text, () -> city.litShare() + " " + city.meanHours());
-        return text.toString();
-    }
-
-    private static void addFixture(StringBuilder text, Lampwick city, int fixture) {
-        add(text, () -> city.state(fixture));
-        for (char what : "bgwmdtac".toCharArray()) {
-            add(text, () -> city.of(fixture, what));
+        for (int i = 0; i < 24; i++) {
+            int hour = i;
+            answers.add(() -> city.isDue(hour) + " " + city.isDue(24 * 199 + hour));
         }
-    }
-
-    private static void add(StringBuilder text, Check.Call call) {
-        try {
-            text.append(call.answer());
-        } catch (RuntimeException e) {
-            text.append(e.getClass().getSimpleName());
-        }
-        text.append(';');
+        return answers.text();
     }
 }
