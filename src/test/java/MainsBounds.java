@@ -382,6 +382,14 @@ final class MainsBounds {
                 }
             }
         }
+        Lampwick asked = chain();
+        bounds.same("asked for while open", 30f, () -> asked.pressure(11));
+        asked.setShut(5, true);
+        bounds.same("then shut", 0f, () -> asked.pressure(11));
+        asked.setShut(5, false);
+        bounds.same("open again", 30f, () -> asked.pressure(11));
+        asked.setFrozen(11, true);
+        bounds.same("then frozen", 0f, () -> asked.pressure(11));
         for (int rise : new int[] {-50, 50}) {
             Lampwick hill = oneMain(1, 1, rise);
             hill.setShut(1, true);

@@ -187,6 +187,12 @@ final class WalkBounds {
         Lampwick pairs = assigned(lampsAt(100, 0, 100, 0), 0, 2, 1, 3);
         bounds.same("two pairs", 11 + 1 + 11 + 1 - 1 - 1 - 11 - 1, () -> pairs.arrange(0));
         order("two pairs: each by numbers", pairs, 1, 3, 0, 2);
+        Lampwick within = assigned(lampsAt(4, 12, 4), 2, 1, 0);
+        bounds.same("the second within a tenth of the first, not of 0", 0, () -> within.arrange(0));
+        order("the second within a tenth of the first, not of 0", within, 0, 1, 2);
+        Lampwick beyond = assigned(lampsAt(4, 16, 12), 2, 1, 0);
+        bounds.same("the second beyond a tenth of the first", 2 + 1 + 2 - 1 - 1 - 1, () -> beyond.arrange(0));
+        order("the second beyond a tenth of the first", beyond, 0, 2, 1);
     }
 
     private void asItWasWhenBegun() {

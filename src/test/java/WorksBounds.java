@@ -254,7 +254,7 @@ final class WorksBounds {
     private void limeOfAnHour() {
         bounds.term("The lime fouls by a hundredth, cut,");
         int[][] cases = {{0, 1, 90, 0}, {1, 1, 100, 1}, {2, 1, 110, 1}, {0, 2, 180, 1}, {1, 2, 200, 2}, {3, 3, 390, 3},
-            {1, 20, 2000, 20}, {0, 19, 1710, 17}, {3, 20, 2600, 26}};
+            {1, 20, 2000, 20}, {0, 19, 1710, 17}, {3, 20, 2600, 26}, {0, 11, 990, 9}, {2, 18, 1980, 19}, {3, 10, 1300, 13}};
         for (int[] told : cases) {
             Lampwick x = new Lampwick();
             x.setRetorts(20);
