@@ -8,7 +8,10 @@ import java.util.Map;
 /** Long runs of mixed calls, right and wrong ones, on the class and on PlainCity: the same answers are due. */
 public final class ModelTest {
     private static final int RUNS = 400;
-    private static final int CALLS = 500;
+    /** What an object is used for at most. */
+    private static final int CALLS = 512;
+    private static final int MOST_HOURS = 48;
+    private static final int LAST_HOUR = 4799;
     private static final int[] EXTREMES = {Integer.MIN_VALUE, Integer.MAX_VALUE, -1, 65536, -65536};
     /** Methods that say much, or change much, are called more often. */
     private static final Map<String, Integer> WEIGHTS = new HashMap<>();
@@ -16,6 +19,7 @@ public final class ModelTest {
 
     private final Check check = new Check("ModelTest");
     private long seed;
+    private int left;
 
     public static void main(String[] args) throws Exception {
         new ModelTest().compare();
@@ -90,10 +94,14 @@ public final class ModelTest {
         Lampwick city = new Lampwick();
         PlainCity plain = new PlainCity();
         boolean isGentle = run % 4 != 0;
+        left = CALLS;
+        if (run % 4 == 3) {
+            passDays(city, plain);
+        }
         if (isGentle) {
             setUp(city, plain);
         }
-        for (int i = 0; i < CALLS; i++) {
+        while (left > 0) {
             Method method = methods[pick(methods.length)];
             if (isGentle && isRough(method.getName()) && pick(8) != 0) {
                 continue;
@@ -103,7 +111,8 @@ public final class ModelTest {
             Object due = outcome(same, plain, arguments);
             String before = due instanceof Class && pick(20) == 0 ? Digest.of(city) : null;
             Object got = outcome(method, city, arguments);
-            String call = "run " + run + ", call " + i + ": " + method.getName() + Arrays.toString(arguments);
+            left--;
+            String call = "run " + run + ", call " + (CALLS - left) + ": " + method.getName() + Arrays.toString(arguments);
             check.judge(call, due, got);
             if (before != null) {
                 check.judge(call + " changes nothing", before, Digest.of(city));
@@ -111,8 +120,19 @@ public final class ModelTest {
         }
     }
 
+    /** To another time of the year, a fifth of these runs to the last hour that there is. */
+    private void passDays(Lampwick city, PlainCity plain) {
+        int end = Math.min(LAST_HOUR, pick(LAST_HOUR + LAST_HOUR / 4));
+        for (int now = 0; now < end; now += MOST_HOURS) {
+            int hours = Math.min(MOST_HOURS, end - now);
+            check.judge("to " + (now + hours), plain.pass(hours), city.pass(hours));
+            left--;
+        }
+    }
+
     /** Wide mains, coal and retorts, so that much of the run is lit. */
     private void setUp(Lampwick city, PlainCity plain) {
+        left -= 17;
         city.setRetorts(20);
         plain.setRetorts(20);
         for (int i = 0; i < 4; i++) {
